@@ -6,6 +6,7 @@ public final class StreetTest {
     letters();
     faults();
     goodTexts();
+    olderLetters();
     faultChangesNothing();
     streetBeginsAnew();
     asked();
@@ -110,6 +111,7 @@ public final class StreetTest {
     fault("s2;w10 0;", 2, 4);
     fault("s2;w9 14;", 2, 6);
     fault("s2;s3;", 3, 3);
+    fault("s1;s1;", 3, 3);
     fault("s2;s99;", 3, 3);
     fault("s2;r0; r0;", 3, 7);
     fault("s2;r4;r4;", 3, 6);
@@ -127,6 +129,21 @@ public final class StreetTest {
     Due.is("street() of \"" + text + "\"", x.street(), doors);
     Due.is("fault() of \"" + text + "\"", x.fault(), Due.NONE);
     Due.is("told(0) of \"" + text + "\"", x.told(0), doors);
+  }
+
+  /** What an older, longer text left behind is not read. */
+  private static void olderLetters() {
+    ChalkedDoors x = Due.street("s2;r8;w2 2;");
+    Due.feed(x, "s2");
+    Due.is("street() of a shorter text", x.street(), -11);
+    Due.is("fault() of a shorter text", x.fault(), 2);
+    Due.feed(x, "s1;");
+    Due.is("street() behind it", x.street(), 1);
+    Due.feed(x, "s3;");
+    Due.is("street() behind that", x.street(), 3);
+    Due.is("told(2)", x.told(2), 4);
+    Due.is("told(3)", x.told(3), 0);
+    Due.is("told(4)", x.told(4), 0);
   }
 
   private static void goodTexts() {

@@ -207,5 +207,10 @@ public final class ThiefTest {
     ChalkedDoors nobody = Due.street("s2;c2 0 0 0;c0 0 0 0;m0 2;m1 2;");
     Due.is("bestDoor(1, 1), all weights 0", nobody.bestDoor(1, 1), Due.NONE);
     Due.is("bestDoor(2, 1), like ones", nobody.bestDoor(2, 1), 0);
+    // 2 of 10000 stay, twice, then 1 of 8 and 2 of 8: a billion becomes 200000, 40, 5, 1
+    ChalkedDoors hardly = Due.street("s1;c0 7 0 0;c0 7 0 0;c0 0 0 1;c0 0 0 2;m0 15;");
+    Due.is("bestDoor(3, 4), a weight of 1", hardly.bestDoor(3, 4), 0);
+    Due.is("belief(3, 4, 0), a weight of 1", hardly.belief(3, 4, 0), 1000000);
+    Due.is("bestDoor(3, 5), a weight of 0", hardly.bestDoor(3, 5), Due.NONE);
   }
 }
