@@ -55,12 +55,29 @@ public final class RuleTest {
   }
 
   private static void members(Class<?> type) {
-    if (type.getDeclaredFields().length > 60) Due.fail(type + " has too many fields");
+    int held = 0;
+    for (Method m : type.getDeclaredMethods()) {
+      if (m.getParameterCount() > 7) Due.fail(m + " takes too many parameters");
+    }
     for (Field f : type.getDeclaredFields()) {
       int m = f.getModifiers();
+      held += Modifier.isStatic(m) ? 0 : 1;
       boolean ofFace = type == ChalkedDoors.class && Arrays.asList(CONSTANTS).contains(f.getName());
       if (ofFace != Modifier.isPublic(m) || !ofFace && !Modifier.isPrivate(m)) Due.fail(f + " has the wrong sight");
       if (Modifier.isStatic(m) && !Modifier.isFinal(m)) Due.fail(f + " is static and not final");
+    }
+    if (held > 20) Due.fail(type + " has too many fields");
+  }
+
+  /** A method's lines are those from its head to the brace that stands as far in as it. */
+  private static void shortMethods(String source) {
+    String[] lines = source.split("\n");
+    for (int i = 0; i < lines.length; i++) {
+      if (!lines[i].matches(" +(public|private)[^=;]*\\) \\{")) continue;
+      String end = lines[i].replaceAll("\\S.*", "}");
+      int length = 1;
+      while (i + length < lines.length && !lines[i + length].equals(end)) length++;
+      if (length >= 60) Due.fail("the method in line " + (i + 1) + " is too long");
     }
   }
 
@@ -79,6 +96,7 @@ public final class RuleTest {
     for (int i = 0; i < source.length(); i++) {
       if (source.charAt(i) > 126) Due.fail("the file has the sign " + (int) source.charAt(i));
     }
+    shortMethods(source);
     Due.is("classes inside", ChalkedDoors.class.getDeclaredClasses().length > 12 ? 1 : 0, 0);
   }
 }
