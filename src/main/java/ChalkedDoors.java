@@ -12,6 +12,8 @@ public final class ChalkedDoors {
     private static final int MOST_CHALKS = 4;
     private static final int MOST_MARKS = 15;
     private static final int MOST_COST = 20;
+    // More than two sets of all chalks can cost together.
+    private static final int ABOVE_ALL_COSTS = 2 * MOST_CHALKS * MOST_COST + 1;
     private static final int MOST_CHILDREN = 7;
     private static final int MOST_STAY = 9;
     private static final int MOST_REACH = 13;
@@ -619,7 +621,7 @@ public final class ChalkedDoors {
 
         private int cheapestSetBeside(int words) {
             int best = 0;
-            int least = Integer.MAX_VALUE;
+            int least = ABOVE_ALL_COSTS;
             for (int set = 0; set < 1 << chalks; set++) {
                 if (!has(words, set) && costOf(set) < least) {
                     least = costOf(set);
@@ -631,7 +633,7 @@ public final class ChalkedDoors {
 
         private int cheapestPair(int distance) {
             int best = NONE;
-            int least = Integer.MAX_VALUE;
+            int least = ABOVE_ALL_COSTS;
             for (int one = 0; one < 1 << chalks; one++) {
                 for (int other = one + 1; other < 1 << chalks; other++) {
                     int cost = costOf(one) + costOf(other);

@@ -81,6 +81,15 @@ public final class RuleTest {
     }
   }
 
+  /** Rule 4 lists functions of the library and none of its constants: Integer.MAX_VALUE is no function. */
+  private static void library(String code) {
+    Matcher used = Pattern.compile("\\b(Integer|Long|Math|Arrays|System|String|Character|Boolean|Double|Float|Short|Byte)\\s*\\.\\s*\\w+\\s*\\(?").matcher(code);
+    String listed = "(Integer|Long|Math)\\.(abs|max|min|compare|bitCount|floorDiv|floorMod)\\(|Arrays\\.(fill|copyOf|copyOfRange)\\(|System\\.arraycopy\\(";
+    while (used.find()) {
+      if (!used.group().matches(listed)) Due.fail("the library's " + used.group() + " is not listed");
+    }
+  }
+
   private static void words() throws Exception {
     String source = Files.readString(Path.of("src/main/java/ChalkedDoors.java"));
     String code = source.replaceAll("(?s)/\\*.*?\\*/", "").replaceAll("//[^\n]*", "");
@@ -93,6 +102,7 @@ public final class RuleTest {
     while (imports.find()) {
       if (!imports.group(1).equals("java.util.Arrays")) Due.fail("the file imports " + imports.group(1));
     }
+    library(code);
     for (int i = 0; i < source.length(); i++) {
       if (source.charAt(i) > 126) Due.fail("the file has the sign " + (int) source.charAt(i));
     }
